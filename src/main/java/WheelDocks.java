@@ -189,7 +189,7 @@ public final class WheelDocks {
     public int way(int station, int other) throws IndexOutOfBoundsException {
         needStation(station);
         needStation(other);
-        // A way is never below 0, so the cast rounds down as Math.floor does.
+        // A way is never below 0, so the cast rounds down.
         return (int) (100.0 * ground.wayBetween(station, other));
     }
 
@@ -213,7 +213,7 @@ public final class WheelDocks {
     }
 
     public boolean agrees() {
-        // A cycle holds one ride at most, so two of one cycle never go on at one time.
+        // A cycle has room for one ride alone, and the next begins when that has ended: no two go on at one time.
         int ofCycles = 0;
         for (int cycle = 0; cycle < CYCLES; cycle++) {
             ofCycles += cycles.ridden[cycle] + cycles.minutesGoingOn(cycle, now);

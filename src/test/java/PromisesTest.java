@@ -723,7 +723,15 @@ public final class PromisesTest {
         is("that stays", 1, d.cycle(0, 1));
         d.unlocked(0, 3, 5);
         is("the last one heard", 3, d.cycle(0, 1));
-        is("four rides", 1, d.rider(2, 1));
+        is("his ride lasted to that minute", 1, d.rider(2, 1));
+        begin();
+        d.unlocked(0, 0, 0);
+        d.price(50);
+        d.pass(40);
+        is("a ride of the first price", 10, d.rider(0, 3));
+        d.faulty(1, 1, 39);
+        d.faulty(1, 1, 38);
+        is("keeps it, when something comes late", 10, d.rider(0, 3));
     }
 
     private static void threeHundred() {
