@@ -1,9 +1,5 @@
 /** The document's promises 1 to 20, one by one: ordinary calls, the edges that it names, and wrong ones. */
-public final class PromisesTest {
-    private static final Check CHECK = new Check();
-    private static final int LOW = Integer.MIN_VALUE, HIGH = Integer.MAX_VALUE;
-    private static WheelDocks d;
-
+public final class PromisesTest extends Cases {
     public static void main(String[] args) {
         aNewObject();
         lies();
@@ -34,36 +30,6 @@ public final class PromisesTest {
         threeHundred();
         firstException();
         CHECK.end("PromisesTest");
-    }
-
-    private static void due(String what, Object want, Check.Call call) {
-        CHECK.due(what, want, call);
-    }
-
-    private static void yes(String what, boolean got) {
-        CHECK.same(what, "true", "" + got);
-    }
-
-    private static void no(String what, boolean got) {
-        CHECK.same(what, "false", "" + got);
-    }
-
-    private static void is(String what, int want, int got) {
-        CHECK.same(what, "" + want, "" + got);
-    }
-
-    private static void done(String what, String want, Check.Deed deed) {
-        CHECK.doneDue(what, want, deed);
-    }
-
-    /** A new object whose stations 0 to 3 have two places each, with the cycles 0 and 1 at station 0. */
-    private static void begin() {
-        d = new WheelDocks();
-        for (int station = 0; station < 4; station++) {
-            d.docks(station, 2);
-        }
-        d.put(0, 0);
-        d.put(1, 0);
     }
 
     private static void aNewObject() {
