@@ -14,11 +14,14 @@ public final class HeardTest extends Cases {
         lockedOnce();
         faultyOnce();
         oddOnesOnce();
+        theVeryFirstOnce();
         sameButForOneIsAnother();
         calledTwiceIsHeardTwice();
         ofOneMinuteAsHeard();
         byMinutesNotAsHeard();
+        aheadOfTheVeryFirst();
         lateOnesAmongLateOnes();
+        lateOneThatChangesNothing();
         soBecomesOdd();
         oddBecomesSo();
         answersTellOfThen();
@@ -206,6 +209,23 @@ public final class HeardTest extends Cases {
         is("two are odd", 2, d.odd());
     }
 
+    private static void theVeryFirstOnce() {
+        fresh();
+        yes("faulty, the very first", d.faulty(0, 0, 0));
+        no("is heard once", d.faulty(0, 0, 0));
+        yes("unlocked, of the same numbers", d.unlocked(0, 0, 0));
+        yes("locked, of the same numbers", d.locked(0, 0, 0));
+        no("unlocked once", d.unlocked(0, 0, 0));
+        no("locked once", d.locked(0, 0, 0));
+        is("two are odd", 2, d.odd());
+        fresh();
+        yes("unlocked, the very first", d.unlocked(29, 9, 0));
+        no("is heard once too", d.unlocked(29, 9, 0));
+        fresh();
+        yes("locked, the very first", d.locked(29, 7, 0));
+        no("is heard once as well", d.locked(29, 7, 0));
+    }
+
     private static void sameButForOneIsAnother() {
         begin();
         d.pass(3);
@@ -282,6 +302,59 @@ public final class HeardTest extends Cases {
         is("a second unlock of what was ridden", 1, d.rider(1, 1));
         is("changes nothing of the first one", 1, d.rider(0, 1));
         is("two minutes of the cycle", 2, d.cycle(0, 3));
+    }
+
+    private static void aheadOfTheVeryFirst() {
+        fresh();
+        d.pass(10);
+        d.mend(0);
+        d.faulty(0, 1, 9);
+        d.faulty(0, 2, 0);
+        is("faults ahead of the very first mend", 0, d.cycle(0, 2));
+        d.faulty(0, 1, 10);
+        d.faulty(0, 2, 10);
+        is("faults behind it", 1, d.cycle(0, 2));
+        fresh();
+        d.docks(0, 1);
+        d.put(0, 0);
+        d.pass(60);
+        d.locked(0, 0, 60);
+        d.unlocked(0, 1, 1);
+        d.locked(0, 0, 2);
+        d.unlocked(0, 2, 0);
+        is("in the minute of the very first, behind it", 1, d.rider(2, 1));
+        is("what was heard ahead of it", 1, d.rider(1, 1));
+        is("locked in the end is odd", 1, d.odd());
+    }
+
+    /** A late fault of a cycle that none uses lets all be gone through anew: credit, grace and bills stay. */
+    private static void lateOneThatChangesNothing() {
+        String[] pictures = new String[2];
+        for (int late = 0; late <= 1; late++) {
+            beginRidden();
+            d.price(8);
+            d.promise(0, 1);
+            d.promise(1, 2);
+            d.docks(1, 0);
+            d.locked(0, 1, 0);
+            d.pass(50);
+            d.unlocked(1, 3, 45);
+            d.faulty(4, 1, 44);
+            d.faulty(4, 2, 44);
+            d.promise(6, 3);
+            d.take(29);
+            d.pass(9);
+            d.docks(4, 5);
+            if (late == 1) {
+                yes("a late one", d.faulty(20, 5, 1));
+                yes("another late one", d.faulty(20, 5, 59));
+                yes("a later one", d.faulty(20, 5, 0));
+            }
+            pictures[late] = Picture.of(d);
+            is("the credit", 100, d.rider(0, 2));
+            is("the bill, with grace", 59 - 40 - 100, d.rider(0, 3));
+        }
+        CHECK.same("behind a late one that changes nothing", pictures[0], pictures[1]);
     }
 
     private static void lateOnesAmongLateOnes() {

@@ -16,6 +16,7 @@ public final class ModelTest {
     private final Model model = new Model();
     private final WheelDocks docks = new WheelDocks();
     private final int stations;
+    private final int laidOut;
     private final int cycles;
     private final int riders;
     private final int mostPlaces;
@@ -26,6 +27,8 @@ public final class ModelTest {
     private ModelTest(int seed) {
         random = new Random(seed);
         stations = 1 + random.nextInt(8);
+        // Two of three towns are laid out first; in the third one anything may be the first to be heard.
+        laidOut = seed % 3 == 0 ? 0 : 2 * stations;
         cycles = 1 + random.nextInt(random.nextBoolean() ? 4 : 30);
         riders = 1 + random.nextInt(10);
         mostPlaces = 1 + random.nextInt(random.nextBoolean() ? 3 : 20);
@@ -44,9 +47,9 @@ public final class ModelTest {
 
     private void run(Check check, String run) {
         for (int call = 0; call < MOST_CALLS; call++) {
-            String name = call < 2 * stations ? (call % 2 == 0 ? "docks" : "lies") : name();
+            String name = call < laidOut ? (call % 2 == 0 ? "docks" : "lies") : name();
             int[] a = arguments(name);
-            if (call < 2 * stations) {
+            if (call < laidOut) {
                 a[0] = call / 2;
             }
             String want = Check.said(() -> model.call(name, a));

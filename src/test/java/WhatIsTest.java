@@ -460,6 +460,9 @@ public final class WhatIsTest extends Cases {
         is("also with grace", 0, d.rider(2, 3));
         d.pass(10);
         is("and above it", 99, d.rider(2, 3));
+        d.unlocked(0, 3, 72);
+        d.pass(31);
+        is("the next ride has its own price and no grace", 2, d.rider(3, 3));
     }
 
     private static void promiseWithMorePlacesThanPromised() {
